@@ -408,7 +408,7 @@ public final class ClockReach {
             return NONE;
         }
         sample[0] = 0;
-        return shown.zones[state].wholeValues(1, sample);
+        return shown.zones[state].wholeValues(sample);
     }
 
     public int rings() {
@@ -642,7 +642,7 @@ public final class ClockReach {
         }
 
         /** The greatest whole number that a BOUND leaves. */
-        static int whole(int bound) {
+        static int wholePart(int bound) {
             return (bound - 1) >> 1;
         }
 
@@ -798,19 +798,26 @@ public final class ClockReach {
             return true;
         }
 
+        int wholeValues(int[] chosen) {
+            return wholeFrom(this, 1, chosen);
+        }
+
         /** How many whole values CLOCKS from the i-th on can have beside those chosen for the ones ahead. */
-        int wholeValues(int i, int[] chosen) {
-            if (i >= size) {
+        private static int wholeFrom(Zone zone, int i, int[] chosen) {
+            int size = zone.size;
+            if (i >= size || i >= chosen.length) {
                 return 1;
             }
             int least = 0;
             int most = POINT_MOST;
             for (int j = 0; j < i; j++) {
-                if (cells[i * size + j] != FREE) {
-                    most = Math.min(most, chosen[j] + whole(cells[i * size + j]));
+                int over = zone.cells[i * size + j];
+                int under = zone.cells[j * size + i];
+                if (over != FREE) {
+                    most = Math.min(most, chosen[j] + wholePart(over));
                 }
-                if (cells[j * size + i] != FREE) {
-                    least = Math.max(least, chosen[j] - whole(cells[j * size + i]));
+                if (under != FREE) {
+                    least = Math.max(least, chosen[j] - wholePart(under));
                 }
             }
             if (i == size - 1) {
@@ -819,7 +826,7 @@ public final class ClockReach {
             int all = 0;
             for (int value = least; value <= most; value++) {
                 chosen[i] = value;
-                all += wholeValues(i + 1, chosen);
+                all += wholeFrom(zone, i + 1, chosen);
             }
             return all;
         }
@@ -1578,7 +1585,7 @@ public final class ClockReach {
     /** What is left of a ZONE when others are taken away, piece by piece. */
     private static final class Remainder {
         private static final int SWALLOWED = -1;
-        /** Pieces never lie in one another, so there are fewer by far than this. */
+        /** Pieces share no value, and some thousand turns are the most that was ever seen. */
         private static final int TURNS_MOST = 100000000;
 
         private final Zone[] covers;
