@@ -1041,6 +1041,9 @@ public final class ClockReach {
 
     /** Reads a text into an AUTOMATON, up to its first FAULT. */
     private static final class Reader {
+        private static final int WORD_MOST = 6;
+        private static final int DIGITS_MOST = 3;
+
         private static final int NO_TOKEN = 0;
         private static final int ENDING = 1;
         private static final int NAME = 2;
@@ -1107,7 +1110,12 @@ public final class ClockReach {
             into.clear();
             advance();
             for (int line = 0; line <= length && kind != ENDING; line++) {
-                if (!readsLine()) {
+                boolean fine = kind == CLOCK ? readsClock()
+                    : kind == PLACE ? readsPlace()
+                    : kind == START ? readsStart()
+                    : kind == EDGE ? readsEdge()
+                    : refuseToken();
+                if (!fine || !readsStop()) {
                     return false;
                 }
             }
@@ -1127,21 +1135,6 @@ public final class ClockReach {
 
         private boolean refuseToken() {
             return refuse(kind == NO_TOKEN ? FAULT_NO_TOKEN : FAULT_ORDER);
-        }
-
-        private boolean readsLine() {
-            switch (kind) {
-                case CLOCK:
-                    return readsClock() && readsStop();
-                case PLACE:
-                    return readsPlace() && readsStop();
-                case START:
-                    return readsStart() && readsStop();
-                case EDGE:
-                    return readsEdge() && readsStop();
-                default:
-                    return refuseToken();
-            }
         }
 
         private boolean readsStop() {
@@ -1317,30 +1310,22 @@ public final class ClockReach {
             tokenAt = position;
             if (position >= length) {
                 kind = ENDING;
-            } else if (isLetter(position)) {
+            } else if (text[position] >= 'a' && text[position] <= 'z') {
                 scanWord();
-            } else if (isDigit(position)) {
+            } else if (text[position] >= '0' && text[position] <= '9') {
                 scanNumber();
             } else {
                 scanSign();
             }
         }
 
-        private boolean isLetter(int at) {
-            return at < length && text[at] >= 'a' && text[at] <= 'z';
-        }
-
-        private boolean isDigit(int at) {
-            return at < length && text[at] >= '0' && text[at] <= '9';
-        }
-
         private void scanWord() {
             value = 0;
-            while (position < length && isLetter(position)) {
+            while (position < length && text[position] >= 'a' && text[position] <= 'z') {
                 value = value * 32 + text[position] - 'a' + 1;
                 position++;
             }
-            kind = position - tokenAt > 6 ? NO_TOKEN : NAME;
+            kind = position - tokenAt > WORD_MOST ? NO_TOKEN : NAME;
             for (int w = 0; w < words.length && kind == NAME; w++) {
                 if (words[w] == value) {
                     kind = CLOCK + w;
@@ -1350,11 +1335,12 @@ public final class ClockReach {
 
         private void scanNumber() {
             value = 0;
-            while (position < length && isDigit(position)) {
+            while (position < length && text[position] >= '0' && text[position] <= '9') {
                 value = value * 10 + text[position] - '0';
                 position++;
             }
-            kind = position - tokenAt > 3 || isLetter(position) ? NO_TOKEN : NUMBER;
+            boolean letter = position < length && text[position] >= 'a' && text[position] <= 'z';
+            kind = position - tokenAt > DIGITS_MOST || letter ? NO_TOKEN : NUMBER;
         }
 
         private void scanSign() {
@@ -1485,15 +1471,11 @@ public final class ClockReach {
             Zone zone = zones[0];
             zone.setPoint(size, units);
             if (place != avoided && model.narrowTo(zone, Automaton.hostOfPlace(place), 0)) {
-                settle(model, zone, place);
+                model.stayIn(zone, place);
+                if (way != 0) {
+                    zone.forget(high, low);
+                }
                 record(place, NONE, NONE);
-            }
-        }
-
-        private void settle(Automaton model, Zone zone, int place) {
-            model.stayIn(zone, place);
-            if (way != 0) {
-                zone.forget(high, low);
             }
         }
 
@@ -1533,7 +1515,10 @@ public final class ClockReach {
             crossed |= 1 << edge;
             model.setBackIn(zone, edge);
             int place = model.targets[edge];
-            settle(model, zone, place);
+            model.stayIn(zone, place);
+            if (way != 0) {
+                zone.forget(high, low);
+            }
             if (isKnown(zone, place)) {
                 return;
             }

@@ -121,6 +121,18 @@ public final class ActsTest {
         Check.same("waits behind " + by, x.waits(0), false);
         Check.same("state behind " + by, x.state(0, 0), -1);
         Check.same("reached behind " + by, x.reached(), -1);
+        Check.same("taken behind " + by, x.taken(), -1);
+        Check.same("first behind " + by, x.first(0), -1);
+        Check.same("within behind " + by, x.within(0, 0), -1);
+        Check.same("has behind " + by, x.has(0, 0, 0, 0), -1);
+        Check.same("overlap behind " + by, x.overlap(0, 0), -1);
+        Check.same("covered behind " + by, x.covered(0), -1);
+        Check.same("points behind " + by, x.points(0), -1);
+        Check.same("run behind " + by, x.run(1, 0), -1);
+        Check.same("when behind " + by, x.when(1, 0), -1);
+        Check.same("then behind " + by, x.then(1, 0, 0), -1);
+        Check.same("spans behind " + by, x.spans(0, 0), -1);
+        Check.same("latest behind " + by, x.latest(1, 0, 9), -1);
         Check.same("bound behind " + by, x.bound(0, 0, 0, 0), Integer.MIN_VALUE);
     }
 }

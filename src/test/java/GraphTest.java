@@ -13,6 +13,8 @@ public final class GraphTest {
         noFirst();
         noClocks();
         stuck();
+        stuckAmongMany();
+        leavesOutBeside();
         coveredByMany();
         whole();
         urgentRings();
@@ -241,6 +243,40 @@ public final class GraphTest {
         stuck("clock x;place a;place b until x<0;edge a b reset x;", 0, 1);
         stuck("clock x;clock y;place a until x<=2;place b;edge a b reset x;edge b b when y<=4 when x>=1;", 1, 1);
         stuck("clock x;clock y;place a until x<=2;place b until y<=4;edge a b reset x;edge b b when y<=4 when x>=1;", 1, 0);
+    }
+
+    /** Fourteen EDGES from one PLACE, each for one stretch of its own: the last one counts as well. */
+    private static void stuckAmongMany() {
+        StringBuilder text = new StringBuilder("clock x;place a;");
+        for (int e = 0; e < 13; e++) {
+            text.append("edge a a when x>=").append(e).append(" when x<").append(e + 1).append(";");
+        }
+        for (int twice = 0; twice < 2; twice++) {
+            ClockReach x = Check.of(text + "edge a a when x>=13;");
+            x.graph(0, true);
+            Check.same("none is left", x.state(0, 5), 0);
+            x.number(13, 0, 14);
+            x.graph(0, true);
+            Check.same("one waits for it", x.state(0, 5), 0);
+            x = Check.of(text + "edge a a when x>13;".replace(">", twice == 0 ? "=" : "<="));
+            x.graph(0, true);
+            Check.same("above 13", x.state(0, 5), 1);
+        }
+    }
+
+    /** By way 2, not LEAVING OUT, z counts too slowly to come to 20 in 120 STATES; LEAVING OUT it does. */
+    private static void leavesOutBeside() {
+        ClockReach x = Check.of("clock x;clock y;clock z;place p until x<=1;place a until x<=1;place b;place c;"
+            + "edge p a when x=1 reset x reset z;edge p p when x=1 reset x;edge a a when x=1 reset x;"
+            + "edge a b when z=20;edge c c when y<20;");
+        x.graph(2, false);
+        Check.same("not LEAVING OUT it is FULL", x.about(6), 1);
+        Check.same("not LEAVING OUT b is not there", x.first(2), -1);
+        x.graph(2, true);
+        Check.same("LEAVING OUT it is not FULL", x.about(6), 0);
+        Check.same("from", x.from(0, 0, 0, 0, 2), 1);
+        Check.same("avoids", x.avoids(3, 2), 1);
+        Check.same("lets", x.lets(3, 0, 2, 1), 20);
     }
 
     private static void coveredByMany() {

@@ -17,6 +17,8 @@ public final class TextTest {
         conditions();
         limits();
         greatestText();
+        oneBehindAnother();
+        beyondTheEnd();
         Check.finish("TextTest");
     }
 
@@ -171,6 +173,12 @@ public final class TextTest {
         fault("clock x;place a until x 1;", 2, 24);
         fault("clock x;place a until x<;", 2, 24);
         fault("clock x;place a until <1;", 2, 22);
+        fault("clock x;place a until x;", 2, 23);
+        fault("place a>", 2, 7);
+        fault("place a<", 2, 7);
+        fault("place a=", 2, 7);
+        fault(HEAD + " when x;", 2, 31);
+        fault(HEAD + " when x;5;", 2, 31);
         fault("clock x;place a when x<1;", 2, 16);
         fault("clock x;place a reset x;", 2, 16);
         fault(HEAD + " until x<1;", 2, 25);
@@ -371,5 +379,69 @@ public final class TextTest {
         Check.same("the last condition", x.condition(13, 3, 2), 4);
         Check.same("the last resets", x.edge(13, 3), 7);
         Check.same("until of the last place", x.condition(107, 2, 2), 3);
+    }
+
+    /** Nothing of a text stays behind when another one is read, nor of one with a FAULT. */
+    private static void oneBehindAnother() {
+        ClockReach x = new ClockReach();
+        String full = "clock x;clock y;clock z;place a urgent until x<9 until z<20;place b urgent;start b;"
+            + "edge a b when x>7 when y=8 when z>=19 reset x;edge b a;";
+        for (int i = 0; i < 4; i++) {
+            Check.tape(x, full);
+            Check.same("the full text", x.automaton(), 2);
+            Check.same("conditions", x.about(4), 5);
+            Check.same("limit", x.limit(2, 0), 20);
+            Check.tape(x, full + "edge");
+            Check.same("the full text and a FAULT", x.automaton(), -1);
+            Check.tape(x, i % 2 == 0 ? "clock p;clock q;clock r;place c;edge c c;" : full);
+            x.automaton();
+        }
+        Check.tape(x, "clock p;clock q;clock r;place c;edge c c;edge c c when r<=3;");
+        Check.same("the plain text", x.automaton(), 1);
+        Check.same("start", x.about(3), 0);
+        Check.same("conditions", x.about(4), 1);
+        Check.same("urgent", x.place(0, 0), 0);
+        Check.same("until", x.place(0, 1), 0);
+        Check.same("when", x.edge(0, 2), 0);
+        Check.same("resets", x.edge(0, 3), 0);
+        int[] limits = {0, 0, 3};
+        for (int c = 0; c < 3; c++) {
+            Check.same("limit(" + c + ", 0)", x.limit(c, 0), limits[c]);
+            Check.same("limit(" + c + ", 1)", x.limit(c, 1), 0);
+            Check.same("limit(" + c + ", 2)", x.limit(c, 2), limits[c]);
+        }
+        x.number(1, 0, 1);
+        Check.same("limit(2, 0) is less now", x.limit(2, 0), 1);
+        Check.same("limit(2, 2) is less now", x.limit(2, 2), 1);
+    }
+
+    /** Bytes that were cut off, or are not there, do not count. */
+    private static void beyondTheEnd() {
+        ClockReach x = new ClockReach();
+        Check.tape(x, "place abc;");
+        x.end(7);
+        Check.same("automaton", x.automaton(), -1);
+        Check.same("fault", x.fault(0), 2);
+        Check.same("its place", x.fault(1), 7);
+        Check.tape(x, "clock x;place a until x<123;");
+        x.end(26);
+        Check.same("automaton", x.automaton(), -1);
+        Check.same("fault", x.fault(0), 2);
+        Check.same("its place", x.fault(1), 26);
+        Check.tape(x, "clock x;place a until x<12b;");
+        x.end(26);
+        Check.same("automaton", x.automaton(), -1);
+        Check.same("fault", x.fault(0), 2);
+        for (char last : new char[] {'a', '7', ';', '<', ' '}) {
+            StringBuilder text = new StringBuilder("clock x;place a;");
+            while (text.length() < 899) {
+                text.append(' ');
+            }
+            Check.tape(x, text.append(last).toString());
+            Check.same("bytes", x.about(9), 900);
+            Check.same("automaton", x.automaton(), last == ' ' ? 1 : -1);
+            Check.same("fault", x.fault(0), last == ' ' ? 0 : 2);
+            Check.same("its place", x.fault(1), last == ' ' ? -1 : 899);
+        }
     }
 }
