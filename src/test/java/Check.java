@@ -46,6 +46,26 @@ final class Check {
         return x;
     }
 
+    /** A text with a FAULT, its place marked by a ^ that is not fed. */
+    static void faulty(int fault, String marked) {
+        int place = marked.indexOf('^');
+        read(marked.substring(0, place) + marked.substring(place + 1), fault, place);
+    }
+
+    static void fine(String text) {
+        read(text, 0, ClockReach.NONE);
+    }
+
+    private static void read(String text, int fault, int place) {
+        ClockReach x = new ClockReach();
+        tape(x, text);
+        same("bytes of '" + text + "'", x.about(9), text.length());
+        same("automaton() of '" + text + "' is NONE", x.automaton() == ClockReach.NONE, fault != 0);
+        same("fault(0) of '" + text + "'", x.fault(0), fault);
+        same("fault(1) of '" + text + "'", x.fault(1), place);
+        same("bytes behind '" + text + "'", x.about(9), 0);
+    }
+
     static void finish(String name) {
         System.out.println(name + ": " + looked + " answers looked at, " + wrong + " wrong");
         if (wrong != 0 || looked == 0) {
