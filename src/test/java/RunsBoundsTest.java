@@ -21,6 +21,8 @@ public final class RunsBoundsTest {
         soonOfSeveral();
         soonWithout();
         soonFull();
+        soonByWay2();
+        soonOfAnotherText();
         letsAtTheEnds();
         letsByNone();
         letsRefused();
@@ -335,6 +337,31 @@ public final class RunsBoundsTest {
         Calls.due(x, 1, "about", 6);
         Calls.due(x, 6, "soonest", 1, 0);
         Calls.due(x, 1, "soonest", 1, 1);
+    }
+
+    /** By way 2: by way 1, which tells y and z apart up to 20, it would be FULL. */
+    private static void soonByWay2() {
+        ClockReach x = Check.of("clock x;clock y;clock z;place a until x<=1;place b;place c;edge a a when x=1 reset x;"
+            + "edge a a when x=1 reset x reset y;edge a a when x=1 reset x reset z;edge c c when y<20 when z<20;edge a b when x=1;");
+        int[] soonest = {0, 1, -1};
+        for (int p = 0; p < 3; p++) {
+            Calls.due(x, soonest[p], "soonest", p, 0);
+        }
+        Calls.due(x, 120, "graph", 1, 1);
+        Calls.due(x, 12, "graph", 2, 1);
+    }
+
+    /** LOWER 0 of the CLOCK more, whatever CLOCKS there were in the text ahead: with 20 it would be FULL. */
+    private static void soonOfAnotherText() {
+        ClockReach x = Check.of("clock x;clock y;clock z;place a;edge a a when z>20;");
+        Calls.due(x, 0, "soonest", 0, 0);
+        Check.tape(x, "clock x;clock y;place a until x<=1;place b;place c;edge a a when x=1 reset x;"
+            + "edge a a when x=1 reset x reset y;edge c c when y>20 when y<20;edge a b when y=20;");
+        x.automaton();
+        int[] soonest = {0, 20, -1};
+        for (int p = 0; p < 3; p++) {
+            Calls.due(x, soonest[p], "soonest", p, 0);
+        }
     }
 
     /** The least, the greatest N (0 .. 20): 0, 20, one alone, and what is there by way of an earlier start. */
