@@ -12,6 +12,7 @@ public final class GraphBoundsTest {
         startThatCanNotStay();
         noClock();
         justFull();
+        fullBeside();
         fullGoesOn();
         fullLooksAtTheRest();
         leavingOut();
@@ -157,7 +158,7 @@ public final class GraphBoundsTest {
                 text.append("edge " + p + " " + (char) (p + 1) + " when x=1 reset x reset y;");
             }
         }
-        return Check.of(text + "place g;edge f g when y=20 reset x reset y;edge g f reset x;");
+        return Check.of(text + "place g;place h;edge f g when y=20 reset x reset y;edge g f reset x;");
     }
 
     /** STATES, 120 at most; FULL is a GRAPH for which a 121st would have come. */
@@ -186,6 +187,24 @@ public final class GraphBoundsTest {
             Calls.due(x, -1, "first", 6);
             Calls.due(x, (1 << 12) - 1, "taken");
         }
+    }
+
+    /** GRAPHS that are asked beside the shown one have 120 STATES at most, too: a PLACE of a 121st is not there. */
+    private static void fullBeside() {
+        ClockReach x = counting(20);
+        Calls.due(x, 0, "from", 0, 0, 0, 0, 6);
+        Calls.due(x, 1, "from", 1, 0, 0, 0, 6);
+        Calls.due(x, 0, "avoids", 7, 6);
+        Calls.due(x, -2, "lets", 10, 1, 6, 0);
+        Calls.due(x, -2, "lets", 10, 1, 6, 1);
+        // one STATE less ahead of it, and it is the 120th
+        x.number(0, 1, 19);
+        Calls.due(x, 1, "from", 0, 0, 0, 0, 6);
+        Calls.due(x, 1, "avoids", 7, 6);
+        Calls.due(x, 20, "lets", 10, 1, 6, 0);
+        Calls.due(x, 20, "lets", 10, 1, 6, 1);
+        Calls.due(x, 19, "lets", 0, 1, 6, 1);
+        Calls.due(x, 0, "lets", 0, 1, 6, 0);
     }
 
     /** All else goes on: what is left out behind the 121st counts as taken, and nothing comes any more. */
